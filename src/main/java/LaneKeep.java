@@ -349,7 +349,6 @@ public final class LaneKeep {
         wave.many = many;
         wave.gap = gap;
         wave.cell = world.land.entries[entry];
-        wave.toCome = 0;
         world.told++;
         return world.told - 1;
     }
