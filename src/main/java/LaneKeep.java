@@ -68,10 +68,10 @@ public final class LaneKeep {
             towerKinds[i] = new TowerKind();
         }
         for (int i = 0; i < MOST_SAVES; i++) {
-            saves[i] = new World(foeKinds[0], towerKinds[0]);
+            saves[i] = new World();
         }
-        world = new World(foeKinds[0], towerKinds[0]);
-        trial = new World(foeKinds[0], towerKinds[0]);
+        world = new World();
+        trial = new World();
     }
 
     // ---- the map
@@ -90,9 +90,11 @@ public final class LaneKeep {
         if (was != FREE && was != ROCK) {
             throw new UnsupportedOperationException("an entry, an exit or a tower is there");
         }
-        land.measure(land.trialWays, cell);
-        if (is && !land.entriesReach(land.trialWays)) {
-            throw new UnsupportedOperationException("an entry would have no way");
+        if (is) {
+            land.measure(land.trialWays, cell);
+            if (!land.entriesReach(land.trialWays)) {
+                throw new UnsupportedOperationException("an entry would have no way");
+            }
         }
         land.put(cell, is ? ROCK : FREE);
         return was == ROCK;
@@ -633,8 +635,8 @@ public final class LaneKeep {
     }
 
     private static final class FoeKind {
-        int life = 1;
-        int speed = 1;
+        int life;
+        int speed;
         int armour;
         int shield;
         int bounty;
@@ -1041,8 +1043,10 @@ public final class LaneKeep {
         int lives = FIRST_LIVES;
         int time;
 
-        /** The kinds stand in what is not used yet, so that no kind is ever null. */
-        World(FoeKind anyFoe, TowerKind anyTower) {
+        World() {
+            // They stand in what is not used yet, so that no kind is ever null.
+            FoeKind anyFoe = new FoeKind();
+            TowerKind anyTower = new TowerKind();
             for (int i = 0; i < MOST_ALIVE; i++) {
                 foes[i] = new Foe(anyFoe);
             }
