@@ -60,12 +60,13 @@ public final class SentencesTest {
                 name = promise.group(1);
             } else if (line.startsWith("## ")) {
                 name = line.substring(3);
-            } else if (!name.equals("The public face") && !name.equals("Not promised") && !line.startsWith("Ahead of the calls")) {
+            } else if (!line.startsWith("```") && !line.startsWith("Ahead of the calls") && !name.equals("The public face")
+                    && !name.equals("Not promised")) {
                 String text = line.matches("`[^`]*\\(.*`: .*") ? line.replaceFirst("`[^`]*`: ", "") : line.replaceFirst("^- ", "");
                 sections.computeIfAbsent(name, key -> new StringBuilder()).append(plain(text)).append(' ');
             }
         }
-        sections.replaceAll((key, text) -> new StringBuilder(plain(text.toString().replace("text true", "true"))));
+        sections.replaceAll((key, text) -> new StringBuilder(plain(text.toString())));
         sections.keySet().forEach(key -> quoted.put(key, new BitSet()));
     }
 
@@ -113,6 +114,7 @@ public final class SentencesTest {
     }
 
     private void checkBounds() {
+        check44Promises();
         sections.forEach((section, text) -> {
             Matcher bound = BOUND.matcher(text);
             while (bound.find()) {
@@ -127,6 +129,15 @@ public final class SentencesTest {
                 checkThrown(section, text, thrown.start(1));
             }
         });
+    }
+
+    private void check44Promises() {
+        for (int promise = 1; promise <= 44; promise++) {
+            BitSet marks = quoted.get(String.valueOf(promise));
+            if (marks == null || marks.isEmpty()) {
+                fail("no test quotes promise " + promise);
+            }
+        }
     }
 
     /** What an exception is thrown for must be quoted word by word, but for what joins its parts. */
